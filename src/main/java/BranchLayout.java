@@ -136,7 +136,6 @@ public final class BranchLayout {
         for (int k = 0; k < statementCount; k++) {
             if (statements[k] instanceof Branch branch) {
                 branch.isShort = branch.goal != null;
-                branch.distance = 0;
             }
         }
     }
