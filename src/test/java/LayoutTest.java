@@ -359,7 +359,7 @@ public final class LayoutTest {
 
     private static void allAreJudgedByTheSamePlaces() {
         CHECKS.says("TO LAY OUT: then all short ones ... become long, and places are told anew");
-        // When the first has become long, the alignment would bring the second's goal near: 126 instead of 128.
+        // When the first has become long, the alignment would bring the second's goal near: 124 instead of 128.
         BranchLayout x = new BranchLayout();
         x.branch(0, 6);
         x.branch(0, 6);
